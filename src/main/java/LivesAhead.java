@@ -70,7 +70,7 @@ public final class LivesAhead {
         if (desk.roomForPersons() < 1) {
             return FULL;
         }
-        history.record(desk);
+        history.remember(desk);
         return desk.join(age, rank);
     }
 
@@ -88,7 +88,7 @@ public final class LivesAhead {
         if (added > desk.roomForPersons()) {
             return FULL;
         }
-        history.record(desk);
+        history.remember(desk);
         for (int i = 0; i < added; i++) {
             desk.joinLike(text.readLife(i));
         }
@@ -115,7 +115,7 @@ public final class LivesAhead {
         if (life.size() >= MOST_FACTS || desk.hoursLeft() < lines) {
             return FULL;
         }
-        history.record(desk);
+        history.remember(desk);
         desk.spendHours(lines);
         return life.addFact(source, lines, desk.today());
     }
@@ -140,7 +140,7 @@ public final class LivesAhead {
         if (life.dayOf(fact) == desk.today()) {
             return NONE;
         }
-        history.record(desk);
+        history.remember(desk);
         desk.checkToday(life, fact);
         return desk.hoursLeft();
     }
@@ -159,7 +159,7 @@ public final class LivesAhead {
         if (life.isIn(PRINTED)) {
             return NOT_POSSIBLE;
         }
-        history.record(desk);
+        history.remember(desk);
         life.removeFact(fact);
         return life.size();
     }
@@ -175,7 +175,7 @@ public final class LivesAhead {
         if (life == null) {
             return NONE;
         }
-        history.record(desk);
+        history.remember(desk);
         int checked = 0;
         while (life != null && checked < MOST_HOURS) {
             desk.checkToday(life, desk.firstToCheck(life));
@@ -203,7 +203,7 @@ public final class LivesAhead {
         if (previous == trust) {
             return NONE;
         }
-        history.record(desk);
+        history.remember(desk);
         desk.changeTrust(source, trust);
         return previous;
     }
@@ -222,7 +222,7 @@ public final class LivesAhead {
         if (previous == value) {
             return NONE;
         }
-        history.record(desk);
+        history.remember(desk);
         desk.changeSetting(which, value);
         return previous;
     }
@@ -248,7 +248,7 @@ public final class LivesAhead {
         if (toldBefore && life.teller() == source) {
             return NONE;
         }
-        history.record(desk);
+        history.remember(desk);
         if (toldBefore) {
             life.confirmDeath(desk.today());
             return 1;
@@ -271,7 +271,7 @@ public final class LivesAhead {
         if (!life.isIn(TOLD_DEAD)) {
             return NOT_POSSIBLE;
         }
-        history.record(desk);
+        history.remember(desk);
         if (confirmed) {
             life.confirmDeath(desk.today());
         } else {
@@ -289,7 +289,7 @@ public final class LivesAhead {
         if (desk.today() >= LAST_DAY) {
             return FULL;
         }
-        history.record(desk);
+        history.remember(desk);
         nextPage.lay(desk);
         int printed = nextPage.size();
         for (int i = 0; i < printed; i++) {
@@ -317,7 +317,7 @@ public final class LivesAhead {
         if (life.sourceOf(fact) == source) {
             return NONE;
         }
-        history.record(desk);
+        history.remember(desk);
         life.changeSource(fact, source);
         return desk.countCorrection();
     }
@@ -382,7 +382,7 @@ public final class LivesAhead {
         if (!hasSnapshot) {
             return NONE;
         }
-        history.record(desk);
+        history.remember(desk);
         desk.copyFrom(snapshot);
         return desk.today();
     }
@@ -594,7 +594,7 @@ public final class LivesAhead {
             takeBackDeath();
         }
 
-        void copyFrom(Life other) {
+        void copyLife(Life other) {
             age = other.age;
             rank = other.rank;
             state = other.state;
@@ -657,7 +657,7 @@ public final class LivesAhead {
             deathDay = NONE;
         }
 
-        void markPrinted(int day) {
+        void becomePrinted(int day) {
             state = PRINTED;
             printDay = day;
         }
@@ -759,7 +759,7 @@ public final class LivesAhead {
                 Life mine = lifeOf(i);
                 Life theirs = other.lifeOf(i);
                 if (mine != null && theirs != null) {
-                    mine.copyFrom(theirs);
+                    mine.copyLife(theirs);
                 }
             }
         }
@@ -811,7 +811,7 @@ public final class LivesAhead {
             }
             Life life = lifeOf(join(model.age(), model.rank()));
             if (life != null) {
-                life.copyFrom(model);
+                life.copyLife(model);
             }
         }
 
@@ -1011,7 +1011,7 @@ public final class LivesAhead {
         void markPrinted(int person) {
             Life life = lifeOf(person);
             if (life != null) {
-                life.markPrinted(day);
+                life.becomePrinted(day);
             }
         }
 
@@ -1130,7 +1130,7 @@ public final class LivesAhead {
             return size;
         }
 
-        void record(Desk now) {
+        void remember(Desk now) {
             if (size >= MOST_STATES) {
                 first = (first + 1) % MOST_STATES;
                 size = MOST_STATES - 1;

@@ -5,6 +5,7 @@ public final class DeathsTest {
         decide();
         takenBackByDays();
         pageOrder();
+        rankBeforeDay();
         pageFits();
         pageNeeds();
         printNeedsEarlierDay();
@@ -126,6 +127,22 @@ public final class DeathsTest {
         x.undo();
         Due.due("not printed", x.count(6), 0);
         Due.due("not printed, no day", x.person(0, 9), LivesAhead.NONE);
+    }
+
+    private static void rankBeforeDay() {
+        LivesAhead x = Due.reads("1r2,0x1,1x1;1r3,0x1,1x1;1r3,0x1,1x1;1r2,0x1,1x1");
+        x.set(3, 3);
+        int[] order = {0, 3, 2, 1};
+        for (int person : order) {
+            x.tellDeath(person, 0);
+            x.decide(person, true);
+            Due.pass(x, 5);
+        }
+        x.set(3, 2);
+        int[] want = {2, 1, 0, 3};
+        for (int i = 0; i < 4; i++) {
+            Due.due("a rank weighs more than days, page(" + i + ")", x.page(i), want[i]);
+        }
     }
 
     private static void pageFits() {

@@ -140,6 +140,11 @@ public final class FactsTest {
         Due.due("check printed no fact", x.check(0, 2), LivesAhead.UNKNOWN);
         x.write(1, 1, 8);
         Due.due("no hours before none", x.check(1, 1), LivesAhead.FULL);
+        x.undo();
+        x.write(1, 1, 7);
+        Due.due("the last hour", x.check(1, 0), 0);
+        x.undo();
+        x.write(1, 1, 1);
         Due.due("no hours", x.check(1, 0), LivesAhead.FULL);
         Due.due("no hours, printed", x.check(0, 0), LivesAhead.NOT_POSSIBLE);
     }

@@ -6,6 +6,7 @@ public final class HistoryTest {
         ringGoesRound();
         keepAndRestore();
         snapshotStays();
+        anotherPerson();
         everyAct();
         noActs();
         Due.end("HistoryTest");
@@ -92,6 +93,43 @@ public final class HistoryTest {
         x.write(0, 1, 1);
         Due.due("acts leave the snapshot", x.restore(), 2);
         Due.due("no persons still", x.count(1), 0);
+    }
+
+    /** Nothing of a person who is undone is left for the next one of the same number. */
+    private static void anotherPerson() {
+        LivesAhead x = new LivesAhead();
+        x.keep();
+        String[] before = {"70r5,0x1,1x1", "70r5,0x1", "60r4,2x2"};
+        for (int state = 1; state <= 3; state++) {
+            Due.type(x, before[state % 3]);
+            x.addPersons();
+            x.clearText();
+            x.tellDeath(0, 0);
+            if (state > 1) {
+                x.decide(0, true);
+            }
+            x.set(3, 1);
+            x.print();
+            Due.due("state of the one before", x.person(0, 2), state == 1 ? 1 : 3);
+            x.restore();
+            x.addPerson(30, 3);
+            int[] want = {30, 3, 0, 0, 0, 0, 0, 100, LivesAhead.NONE, LivesAhead.NONE, 0};
+            for (int what = 0; what <= 10; what++) {
+                Due.due("person(0, " + what + ") after " + state, x.person(0, what), want[what]);
+            }
+            Due.due("told first", x.tellDeath(0, 0), 0);
+            x.restore();
+        }
+        x.addPerson(1, 2);
+        x.keep();
+        x.undo();
+        x.addPerson(3, 4);
+        x.restore();
+        Due.due("age of the snapshot", x.person(0, 0), 1);
+        Due.due("rank of the snapshot", x.person(0, 1), 2);
+        x.undo();
+        Due.due("age of the history", x.person(0, 0), 3);
+        Due.due("rank of the history", x.person(0, 1), 4);
     }
 
     private static LivesAhead ready() {

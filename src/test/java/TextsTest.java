@@ -131,7 +131,16 @@ public final class TextsTest {
         Due.type(x, "5");
         Due.due("mended", x.addPersons(), 2);
         Due.due("all are added", x.count(1), 3);
-        Due.due("no facts of the first reading", x.person(2, 3), 1);
+        Due.due("one fact", x.person(2, 3), 1);
+        x.clearText();
+        Due.type(x, "9r9,0x1,0x1;9r9,0x1;");
+        Due.due("fault behind facts", x.addPersons(), -120);
+        x.clearText();
+        Due.type(x, "8r8;7r7,1x1");
+        Due.due("read anew", x.addPersons(), 2);
+        Due.due("no facts of the first reading", x.person(3, 3), 0);
+        Due.due("nor of its second", x.person(4, 3), 1);
+        Due.due("the new fact", x.fact(4, 0, 0), 1);
     }
 
     private static void typing() {
