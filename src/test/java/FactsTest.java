@@ -180,6 +180,10 @@ public final class FactsTest {
         Due.due("strike of 8", full.strike(0, 7), 7);
         Due.due("strike of 7", full.strike(0, 0), 6);
         Due.due("lines moved up", full.person(0, 4), 2 + 3 + 4 + 5 + 6 + 7);
+        full = Due.reads("1r1,0x1,1x2,2x3,3x4,4x5,5x6,0x7,1x8");
+        Due.due("strike first of 8", full.strike(0, 0), 7);
+        Due.due("the last moved up, too", full.fact(0, 6, 1), 8);
+        Due.due("its source, too", full.fact(0, 6, 0), 1);
     }
 
     private static void checkUrgent() {
