@@ -25,6 +25,7 @@ public final class LanguageTest {
         List<String> lines = code(Files.readString(PROGRAM).split("\n"));
         words(lines);
         methodLengths(lines);
+        newObjects(lines);
         fields();
         depth(lines);
         Due.end("LanguageTest");
@@ -63,6 +64,22 @@ public final class LanguageTest {
                 }
                 Due.due("a short method: " + lines.get(i).strip(), last - i < 60 ? 1 : 0, 1);
             }
+        }
+    }
+
+    /** All rows are made in constructors: a new object stands in these or beside a field alone. */
+    private static void newObjects(List<String> lines) {
+        boolean inMethod = false;
+        String end = "";
+        for (int i = 0; i < lines.size(); i++) {
+            String line = lines.get(i);
+            if (METHOD.matcher(line).find() && !line.contains(" new ")) {
+                inMethod = true;
+                end = line.replaceAll("\\S.*", "") + "}";
+            }
+            boolean makes = line.matches(".*\\bnew\\b.*");
+            Due.due("line " + (i + 1) + " makes no object", inMethod && makes ? 1 : 0, 0);
+            inMethod = inMethod && !line.equals(end);
         }
     }
 

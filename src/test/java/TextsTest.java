@@ -9,6 +9,7 @@ public final class TextsTest {
         allOrNone();
         typing();
         strangeCharacters();
+        everyEnding();
         Due.end("TextsTest");
     }
 
@@ -172,6 +173,41 @@ public final class TextsTest {
             Due.type(x, "5r1");
             x.type(c);
             Due.due("fault of strange behind", x.addPersons(), -103);
+        }
+    }
+
+    /** Behind texts that stop at each kind of place: every ending of up to 3 characters. */
+    private static void everyEnding() {
+        String[] starts = {"", "1", "11", "9;110", "7r", "7r3", "7r3,", "7r3,4", "7r3,4x", "7r3,4x5",
+            "7r3,4x5;", "0r1,0x1,0x2,0x3,0x4,0x5,0x6,0x7", "1r1;0r1,0x1,0x2,0x3,0x4,0x5,0x6,0x7,0x8"};
+        for (String start : starts) {
+            endings(start, 3);
+        }
+    }
+
+    private static void endings(String text, int more) {
+        asTheModel(text);
+        for (char c : "/01569:rx,; ".toCharArray()) {
+            if (more > 0) {
+                endings(text + c, more - 1);
+            }
+        }
+    }
+
+    private static void asTheModel(String text) {
+        LivesAhead x = new LivesAhead();
+        Model model = new Model();
+        Due.type(x, text);
+        for (char c : text.toCharArray()) {
+            model.type(c);
+        }
+        int added = model.addPersons();
+        Due.due("addPersons() of " + text, x.addPersons(), added);
+        for (int person = 0; person < added; person++) {
+            for (int what : new int[] {0, 1, 3, 4, 6}) {
+                Due.due("person(" + person + ", " + what + ") of " + text,
+                        x.person(person, what), model.person(person, what));
+            }
         }
     }
 }
